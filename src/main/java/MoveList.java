@@ -114,13 +114,13 @@ public final class MoveList {
     /** How many moves the LIST has. */
     public int count() throws IllegalStateException {
         needPlayed();
-        return found().size();
+        return legalMoves().size();
     }
 
     /** Move i of the LIST. */
     public int move(int i) throws IllegalStateException, IndexOutOfBoundsException {
         needPlayed();
-        Moves list = found();
+        Moves list = legalMoves();
         if (i < 0 || i >= list.size()) {
             throw new IndexOutOfBoundsException("no such move");
         }
@@ -131,7 +131,7 @@ public final class MoveList {
     /** The place of a move in the LIST; NONE if it is not LEGAL. */
     public int place(int move) throws IllegalStateException {
         needPlayed();
-        Moves list = found();
+        Moves list = legalMoves();
         list.sort();
         return list.indexOf(move);
     }
@@ -139,7 +139,7 @@ public final class MoveList {
     /** How many LEGAL moves come from a square (which true), or go to it. */
     public int on(int square, boolean which) throws IllegalStateException {
         needPlayed();
-        Moves list = found();
+        Moves list = legalMoves();
         return which ? list.countFrom(square) : list.countTo(square);
     }
 
@@ -168,7 +168,7 @@ public final class MoveList {
             throw new UnsupportedOperationException("no more moves can be taken back");
         }
         position.play(move);
-        return found().size();
+        return legalMoves().size();
     }
 
     /** The latest move that was made (and was not taken back) is taken back: it; NONE if there is none. */
@@ -216,13 +216,14 @@ public final class MoveList {
     }
 
     private void needLegal(int move) {
-        if (found().indexOf(move) == NONE) {
+        finder.fill(lists[0]);
+        if (lists[0].indexOf(move) == NONE) {
             throw new IllegalArgumentException("the move is not legal");
         }
     }
 
-    /** The LEGAL moves, by from alone: most calls do not need them in the order of the LIST. */
-    private Moves found() {
+    /** The moves of the LIST, not yet sorted: most calls do not ask for the order. */
+    private Moves legalMoves() {
         finder.fill(lists[0]);
         return lists[0];
     }
@@ -230,7 +231,8 @@ public final class MoveList {
     private int broughtBy(int move) {
         position.play(move);
         int sum = position.inCheck() ? GIVES_CHECK : 0;
-        if (found().size() == 0) {
+        finder.fill(lists[0]);
+        if (lists[0].size() == 0) {
             sum += ENDS_GAME;
         }
         position.takeBack();
@@ -246,8 +248,9 @@ public final class MoveList {
         if (depth == 1) {
             return moves.size();
         }
+        int size = moves.size();
         long sum = 0L;
-        for (int i = 0; i < moves.size(); i++) {
+        for (int i = 0; i < size; i++) {
             position.play(moves.get(i));
             sum += linesTo(depth - 1);
             position.takeBack();
@@ -305,8 +308,8 @@ public final class MoveList {
 
     /** The square that is some files and ranks away; NONE if that is off the board. */
     private static int beside(int square, int files, int ranks) {
-        int file = fileOf(square) + files;
-        int rank = rankOf(square) + ranks;
+        int file = (square & 7) + files;
+        int rank = (square >> 3) + ranks;
         return file < 0 || file > 7 || rank < 0 || rank > 7 ? NONE : 8 * rank + file;
     }
 
@@ -316,11 +319,29 @@ public final class MoveList {
 
     /** How many squares there are from a square to the edge of the board. */
     private static int reach(int square, int direction) {
+        int file = square & 7;
+        int rank = square >> 3;
         int files = FILE_STEPS[direction];
         int ranks = RANK_STEPS[direction];
-        int across = files == 0 ? 7 : files > 0 ? 7 - fileOf(square) : fileOf(square);
-        int along = ranks == 0 ? 7 : ranks > 0 ? 7 - rankOf(square) : rankOf(square);
+        int across = files == 0 ? 7 : files > 0 ? 7 - file : file;
+        int along = ranks == 0 ? 7 : ranks > 0 ? 7 - rank : rank;
         return across < along ? across : along;
+    }
+
+    /** The right that goes with a rook's corner; 0 for any other square. */
+    private static int rightOf(int corner) {
+        switch (corner) {
+            case 7:
+                return 1;
+            case 0:
+                return 2;
+            case 63:
+                return 4;
+            case 56:
+                return 8;
+            default:
+                return 0;
+        }
     }
 
     /** Moves in a row that is made once and used again. */
@@ -365,7 +386,7 @@ public final class MoveList {
             }
         }
 
-        /** By from, then to, then kind; those of one from stand together before, so few are shifted far. */
+        /** By from, then to, then kind; most come by from already, so that few are shifted far. */
         void sort() {
             for (int i = 1; i < size; i++) {
                 int move = row[i];
@@ -443,7 +464,7 @@ public final class MoveList {
         }
 
         int pieceOn(int square) {
-            return isSquare(square) ? pieces[square] : 0;
+            return square >= 0 && square < SQUARES ? pieces[square] : 0;
         }
 
         void lay(int square, int piece) {
@@ -632,13 +653,7 @@ public final class MoveList {
             return board.attacked(board.kingOf(side), 1 - side);
         }
 
-        /** Whether a pawn of the side to move that ATTACKS a square takes in passing there. */
-        boolean canPassTo(int to) {
-            return to == passing
-                    && board.pieceOn(to) == 0
-                    && board.pieceOn(to - forwardOf(side)) == pieceOf(PAWN, 1 - side);
-        }
-
+        /** Whether a move that a pawn has is one to PASSING: only there it goes aslant to an empty square. */
         boolean takesInPassing(int move) {
             int from = fromOf(move);
             int to = toOf(move);
@@ -678,7 +693,9 @@ public final class MoveList {
             int from = fromOf(move);
             int to = toOf(move);
             int type = typeOf(board.pieceOn(from));
-            remember(move, takesInPassing(move) ? to - forwardOf(side) : to);
+            int on = takesInPassing(move) ? to - forwardOf(side) : to;
+            remember(move, on);
+            board.lay(on, 0);
             board.carry(from, to);
             if (kindOf(move) != 0) {
                 board.lay(to, pieceOf(kindOf(move), side));
@@ -698,7 +715,6 @@ public final class MoveList {
             rightsBefore[made] = rights;
             passingBefore[made] = passing;
             made++;
-            board.lay(on, 0);
         }
 
         /** The move that is taken back, NONE if there is none. */
@@ -737,31 +753,14 @@ public final class MoveList {
             rights &= ~lost;
         }
 
-        private static int rightOf(int corner) {
-            switch (corner) {
-                case 7:
-                    return 1;
-                case 0:
-                    return 2;
-                case 63:
-                    return 4;
-                case 56:
-                    return 8;
-                default:
-                    return 0;
-            }
-        }
-
         /** The square that a pawn passed, if a pawn of the other side, which is beside it now, ATTACKS it. */
         private int passedOf(int from, int to) {
             if (to - from != 16 && from - to != 16) {
                 return NONE;
             }
-            return isOtherPawn(beside(to, -1, 0)) || isOtherPawn(beside(to, 1, 0)) ? (from + to) / 2 : NONE;
-        }
-
-        private boolean isOtherPawn(int square) {
-            return square != NONE && board.pieceOn(square) == pieceOf(PAWN, 1 - side);
+            int pawn = pieceOf(PAWN, 1 - side);
+            boolean attacked = board.pieceOn(beside(to, -1, 0)) == pawn || board.pieceOn(beside(to, 1, 0)) == pawn;
+            return attacked ? (from + to) / 2 : NONE;
         }
     }
 
@@ -776,18 +775,23 @@ public final class MoveList {
         }
 
         void fill(Moves out) {
-            fillAll(out);
-            int king = board.kingOf(position.side());
+            int side = position.side();
+            out.empty();
+            addFromAll(side, out);
+            addCastling(KING_SIDE, side, out);
+            addCastling(QUEEN_SIDE, side, out);
+            int king = board.kingOf(side);
             boolean inCheck = position.inCheck();
-            long shields = board.shields(position.side());
+            long shields = board.shields(side);
+            int size = out.size();
             int kept = 0;
-            for (int i = 0; i < out.size(); i++) {
+            for (int i = 0; i < size; i++) {
                 int move = out.get(i);
                 int from = fromOf(move);
-                // Trying is dear, and only these moves can leave the king attacked.
+                // Trying a move is dear, and no others can leave the king attacked.
                 boolean doubtful = inCheck || from == king || (shields >>> from & 1L) != 0L
                         || position.takesInPassing(move);
-                if (!doubtful || isSafe(move)) {
+                if (!doubtful || isSafe(move, side)) {
                     out.keep(kept, move);
                     kept++;
                 }
@@ -795,51 +799,43 @@ public final class MoveList {
             out.cutTo(kept);
         }
 
-        private boolean isSafe(int move) {
-            int side = position.side();
+        private boolean isSafe(int move, int side) {
             position.play(move);
             boolean safe = !board.attacked(board.kingOf(side), 1 - side);
             position.takeBack();
             return safe;
         }
 
-        private void fillAll(Moves out) {
-            out.empty();
-            for (int square = 0; square < SQUARES; square++) {
-                int piece = board.pieceOn(square);
-                if (sideOf(piece) == position.side()) {
-                    addFrom(square, typeOf(piece), out);
+        private void addFromAll(int side, Moves out) {
+            for (int from = 0; from < SQUARES; from++) {
+                int piece = board.pieceOn(from);
+                if (sideOf(piece) != side) {
+                    continue;
+                }
+                switch (typeOf(piece)) {
+                    case PAWN:
+                        addPawn(from, side, out);
+                        break;
+                    case KNIGHT:
+                        addKnight(from, side, out);
+                        break;
+                    case BISHOP:
+                        addLines(from, side, DIAGONALS, DIRECTIONS, 7, out);
+                        break;
+                    case ROOK:
+                        addLines(from, side, 0, DIAGONALS, 7, out);
+                        break;
+                    case QUEEN:
+                        addLines(from, side, 0, DIRECTIONS, 7, out);
+                        break;
+                    default:
+                        addLines(from, side, 0, DIRECTIONS, 1, out);
+                        break;
                 }
             }
         }
 
-        private void addFrom(int from, int type, Moves out) {
-            switch (type) {
-                case PAWN:
-                    addPawn(from, out);
-                    break;
-                case KNIGHT:
-                    addKnight(from, out);
-                    break;
-                case BISHOP:
-                    addLines(from, DIAGONALS, DIRECTIONS, 7, out);
-                    break;
-                case ROOK:
-                    addLines(from, 0, DIAGONALS, 7, out);
-                    break;
-                case QUEEN:
-                    addLines(from, 0, DIRECTIONS, 7, out);
-                    break;
-                case KING:
-                    addLines(from, 0, DIRECTIONS, 1, out);
-                    addCastling(from, out);
-                    break;
-                default:
-                    break;
-            }
-        }
-
-        private void addLines(int from, int first, int end, int furthest, Moves out) {
+        private void addLines(int from, int side, int first, int end, int furthest, Moves out) {
             for (int direction = first; direction < end; direction++) {
                 int step = stepOf(direction);
                 int reach = reach(from, direction);
@@ -847,7 +843,7 @@ public final class MoveList {
                 for (int n = 0; n < reach && n < furthest; n++) {
                     to += step;
                     int met = board.pieceOn(to);
-                    if (sideOf(met) != position.side()) {
+                    if (sideOf(met) != side) {
                         out.add(moveOf(from, to, 0));
                     }
                     if (met != 0) {
@@ -857,39 +853,16 @@ public final class MoveList {
             }
         }
 
-        private void addKnight(int from, Moves out) {
+        private void addKnight(int from, int side, Moves out) {
             for (int i = 0; i < KNIGHT_FILES.length; i++) {
                 int to = beside(from, KNIGHT_FILES[i], KNIGHT_RANKS[i]);
-                if (to != NONE && sideOf(board.pieceOn(to)) != position.side()) {
+                if (to != NONE && sideOf(board.pieceOn(to)) != side) {
                     out.add(moveOf(from, to, 0));
                 }
             }
         }
 
-        private void addCastling(int from, Moves out) {
-            int side = position.side();
-            if (from != (side == 0 ? 4 : 60)) {
-                return;
-            }
-            if (canCastle(from, KING_SIDE, from + 3, side == 0 ? 1 : 4)) {
-                out.add(moveOf(from, from + 2, 0));
-            }
-            if (canCastle(from, QUEEN_SIDE, from - 4, side == 0 ? 2 : 8)) {
-                out.add(moveOf(from, from - 2, 0));
-            }
-        }
-
-        private boolean canCastle(int from, int direction, int corner, int right) {
-            int side = position.side();
-            return (position.rights() & right) != 0
-                    && board.pieceOn(corner) == pieceOf(ROOK, side)
-                    && board.firstFrom(from, direction) == corner
-                    && !board.attacked(from, 1 - side)
-                    && !board.attacked(from + stepOf(direction), 1 - side);
-        }
-
-        private void addPawn(int from, Moves out) {
-            int side = position.side();
+        private void addPawn(int from, int side, Moves out) {
             int forward = forwardOf(side);
             int next = from + forward;
             if (!isSquare(next)) {
@@ -901,26 +874,49 @@ public final class MoveList {
                     addPawnTo(from, next + forward, out);
                 }
             }
-            addPawnTaking(from, beside(next, -1, 0), out);
-            addPawnTaking(from, beside(next, 1, 0), out);
+            int left = beside(next, -1, 0);
+            if (canTake(left, side)) {
+                addPawnTo(from, left, out);
+            }
+            int right = beside(next, 1, 0);
+            if (canTake(right, side)) {
+                addPawnTo(from, right, out);
+            }
         }
 
-        private void addPawnTaking(int from, int to, Moves out) {
+        /** Whether there is something on a square, or in passing, that a pawn of a side takes. */
+        private boolean canTake(int to, int side) {
             if (to == NONE) {
-                return;
+                return false;
             }
-            if (sideOf(board.pieceOn(to)) == 1 - position.side() || position.canPassTo(to)) {
-                addPawnTo(from, to, out);
+            int met = board.pieceOn(to);
+            if (met != 0) {
+                return sideOf(met) != side;
             }
+            return to == position.passing() && board.pieceOn(to - forwardOf(side)) == pieceOf(PAWN, 1 - side);
         }
 
         private void addPawnTo(int from, int to, Moves out) {
-            if (rankOf(to) != (position.side() == 0 ? 7 : 0)) {
+            // No pawn goes back, so that both sides' last ranks can be asked for at once.
+            if (rankOf(to) != 0 && rankOf(to) != 7) {
                 out.add(moveOf(from, to, 0));
                 return;
             }
             for (int kind = KNIGHT; kind <= QUEEN; kind++) {
                 out.add(moveOf(from, to, kind));
+            }
+        }
+
+        private void addCastling(int direction, int side, Moves out) {
+            int from = side == 0 ? 4 : 60;
+            int corner = direction == KING_SIDE ? from + 3 : from - 4;
+            int step = stepOf(direction);
+            boolean free = board.kingOf(side) == from
+                    && (position.rights() & rightOf(corner)) != 0
+                    && board.pieceOn(corner) == pieceOf(ROOK, side)
+                    && board.firstFrom(from, direction) == corner;
+            if (free && !board.attacked(from, 1 - side) && !board.attacked(from + step, 1 - side)) {
+                out.add(moveOf(from, from + 2 * step, 0));
             }
         }
     }

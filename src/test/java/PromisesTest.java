@@ -102,13 +102,14 @@ public final class PromisesTest {
     }
 
     private static void beginning() {
-        MoveList x = Setup.of("qqqqkqqq/8/8/8/8/8/8/K7 b - e3");
+        MoveList x = Setup.of("qqqqkqqq/8/PpNn4/3K4/4k3/7r/8/K7 b - e3");
         x.begin();
         int[] row = {4, 2, 3, 5, 6, 3, 2, 4};
         for (int s = 0; s < 64; s++) {
             int want = s < 8 ? row[s] : s < 16 ? 1 : s < 48 ? 0 : s < 56 ? 7 : row[s - 56] + 6;
             due("3 at(" + s + ")", x.at(s), want);
         }
+        due("3 playable()", x.playable(), true);
         due("3 state", x.look(0) + " " + x.look(1) + " " + x.look(2) + " " + x.look(3), "0 15 -1 0");
         x.make(Setup.move("g1f3"));
         x.begin();
