@@ -764,7 +764,10 @@ public final class MoveList {
         }
     }
 
-    /** Finds the LEGAL moves: those that the pieces have, less those that leave the king ATTACKED. */
+    /**
+     * Finds the LEGAL moves: those that the pieces have, less those that leave the king ATTACKED. It is
+     * asked only where the position can be PLAYED; there no piece reaches the other king.
+     */
     private static final class Finder {
         private final Board board;
         private final Position position;
