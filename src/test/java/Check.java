@@ -1,6 +1,7 @@
+import java.util.function.Function;
 import java.util.function.Supplier;
 
-/** Compares answers with those that are due; an exception is answered as its simple name behind "throws.". */
+/** Compares answers with those that are due. */
 final class Check {
     private int calls = 0;
     private int wrong = 0;
@@ -13,6 +14,17 @@ final class Check {
         }
     }
 
+    /**
+     * A call that changes nothing: behind it the game is in all that can be asked, and in all that can be
+     * taken back, like another one of which the call was never asked.
+     */
+    void kept(String what, Supplier<Game> standing, Function<Game, String> call, Object want) {
+        Game asked = standing.get();
+        due(what, call.apply(asked), want);
+        due(what + " changes nothing", asked.everything(), standing.get().everything());
+    }
+
+    /** An exception is answered as its simple name behind "throws.". */
     static String answer(Supplier<Object> call) {
         try {
             return String.valueOf(call.get());

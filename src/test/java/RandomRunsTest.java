@@ -1,5 +1,6 @@
 import java.util.List;
 import java.util.Random;
+import java.util.function.Function;
 
 /** Runs of calls on positions of many sorts, each answer compared with the oracle's. Seeds are fixed. */
 public final class RandomRunsTest {
@@ -7,7 +8,7 @@ public final class RandomRunsTest {
 
     private final Check check = new Check();
     private final Random random;
-    private final MoveList x = new MoveList();
+    private final Game x = new Game();
     private final Oracle o = new Oracle();
     private final int seed;
 
@@ -20,26 +21,45 @@ public final class RandomRunsTest {
         return random.nextInt(n);
     }
 
+    private void same(String call, String got, Function<Oracle, Object> want) {
+        check.due("seed " + seed + " " + call, got, Check.answer(() -> want.apply(o)));
+    }
+
     private void put(int square, int piece) {
-        check.due("seed " + seed + " put(" + square + ", " + piece + ")",
-                Check.answer(() -> x.put(square, piece)), Check.answer(() -> o.put(square, piece)));
+        same("put(" + square + ", " + piece + ")", x.put(square, piece), oracle -> {
+            oracle.put(square, piece);
+            return Game.DONE;
+        });
     }
 
     private void state(int side, int rights, int passing) {
-        check.due("seed " + seed + " state(" + side + ", " + rights + ", " + passing + ")",
-                Check.answer(() -> x.state(side, rights, passing)),
-                Check.answer(() -> o.state(side, rights, passing)));
+        same("state(" + side + ", " + rights + ", " + passing + ")", x.state(side, rights, passing), oracle -> {
+            oracle.state(side, rights, passing);
+            return Game.DONE;
+        });
+    }
+
+    private void begin() {
+        same("begin()", x.begin(), oracle -> {
+            oracle.begin();
+            return Game.DONE;
+        });
+    }
+
+    private void clear() {
+        same("clear()", x.clear(), oracle -> {
+            oracle.clear();
+            return Game.DONE;
+        });
     }
 
     private void setUp() {
         int style = below(6);
         if (style == 0) {
-            x.begin();
-            o.begin();
+            begin();
             return;
         }
-        x.clear();
-        o.clear();
+        clear();
         boolean home = below(2) == 0;
         int white = home ? 4 : below(64);
         int black = home ? 60 : below(64);
@@ -48,22 +68,12 @@ public final class RandomRunsTest {
             put(below(64), style == 2 ? (below(2) == 0 ? 1 : 7) : style == 3 ? 1 + 6 * below(2) + below(5) : below(13));
         }
         for (int s = 0; s < 64; s++) {
-            if (x.at(s) == 6 || x.at(s) == 12) {
+            if (o.at(s) == 6 || o.at(s) == 12) {
                 put(s, 0);
             }
         }
         if (home) {
-            int[] corners = {0, 7, 56, 63};
-            for (int i = 0; i < 4; i++) {
-                if (below(4) != 0) {
-                    put(corners[i], i < 2 ? 4 : 10);
-                }
-                if (below(3) != 0) {
-                    for (int k = 1; k < 4; k++) {
-                        put(i % 2 == 0 ? corners[i] + k : corners[i] - Math.min(k, 2), 0);
-                    }
-                }
-            }
+            clearTheWay();
         }
         put(white, 6);
         if (below(20) != 0 || white != black) {
@@ -74,13 +84,28 @@ public final class RandomRunsTest {
         state(side, below(3) == 0 ? below(16) : 15, passing);
     }
 
+    /** Rooks on most corners, and most ways to them empty, so that CASTLING comes up often. */
+    private void clearTheWay() {
+        int[] corners = {0, 7, 56, 63};
+        for (int i = 0; i < 4; i++) {
+            if (below(4) != 0) {
+                put(corners[i], i < 2 ? 4 : 10);
+            }
+            if (below(3) != 0) {
+                for (int k = 1; k < 4; k++) {
+                    put(i % 2 == 0 ? corners[i] + k : corners[i] - Math.min(k, 2), 0);
+                }
+            }
+        }
+    }
+
     /** A square behind a pawn of the other side, so that taking in passing comes up often. */
     private int passingOf(int side) {
         int start = below(64);
         for (int i = 0; i < 64; i++) {
             int s = (start + i) % 64;
             int to = side == 0 ? s + 8 : s - 8;
-            if (x.at(s) == (side == 0 ? 7 : 1) && to >= 0 && to < 64 && x.at(to) == 0) {
+            if (o.at(s) == (side == 0 ? 7 : 1) && to >= 0 && to < 64 && o.at(to) == 0) {
                 return to;
             }
         }
@@ -114,50 +139,52 @@ public final class RandomRunsTest {
         int m = someMove();
         int s = square();
         boolean w = below(2) == 0;
-        String at = "seed " + seed + " ";
         switch (below(14)) {
-            case 0: check.due(at + "count()", Check.answer(() -> (Object) x.count()), Check.answer(() -> (Object) o.count())); break;
-            case 1: check.due(at + "move(" + s + ")", Check.answer(() -> (Object) x.move(s)), Check.answer(() -> (Object) o.move(s))); break;
-            case 2: check.due(at + "place(" + m + ")", Check.answer(() -> (Object) x.place(m)), Check.answer(() -> (Object) o.place(m))); break;
-            case 3: check.due(at + "on(" + s + ", " + w + ")", Check.answer(() -> (Object) x.on(s, w)), Check.answer(() -> (Object) o.on(s, w))); break;
-            case 4: case 5: check.due(at + "kind(" + m + ")", Check.answer(() -> (Object) x.kind(m)), Check.answer(() -> (Object) o.kind(m))); break;
+            case 0: same("count()", x.count(), Oracle::count); break;
+            case 1: same("move(" + s + ")", x.move(s), oracle -> oracle.move(s)); break;
+            case 2: same("place(" + m + ")", x.place(m), oracle -> oracle.place(m)); break;
+            case 3: same("on(" + s + ", " + w + ")", x.on(s, w), oracle -> oracle.on(s, w)); break;
+            case 4: case 5: same("kind(" + m + ")", x.kind(m), oracle -> oracle.kind(m)); break;
             case 6: {
                 int d = depth();
-                check.due(at + "lines(" + d + ")", Check.answer(() -> (Object) x.lines(d)), Check.answer(() -> (Object) o.lines(d)));
+                same("lines(" + d + ")", x.lines(d), oracle -> oracle.lines(d));
                 break;
             }
-            case 7: case 8: case 9: check.due(at + "make(" + m + ")", Check.answer(() -> (Object) x.make(m)), Check.answer(() -> (Object) o.make(m))); break;
-            case 10: check.due(at + "unmake()", x.unmake(), o.unmake()); break;
-            case 11: check.due(at + "check()", Check.answer(() -> (Object) x.check()), Check.answer(() -> (Object) o.check())); break;
-            case 12: check.due(at + "pinned()", Check.answer(() -> (Object) x.pinned()), Check.answer(() -> (Object) o.pinned())); break;
+            case 7: case 8: case 9: same("make(" + m + ")", x.make(m), oracle -> oracle.make(m)); break;
+            case 10: same("unmake()", x.unmake(), Oracle::unmake); break;
+            case 11: same("check()", x.check(), Oracle::check); break;
+            case 12: same("pinned()", x.pinned(), Oracle::pinned); break;
             default:
                 if (below(6) == 0) {
                     put(s, below(14) - (below(10) == 0 ? 1 : 0));
                 } else if (below(6) == 0) {
                     state(below(10) == 0 ? s : below(2), below(10) == 0 ? s : below(16), s);
                 } else {
-                    check.due(at + "at(" + s + ")", x.at(s), o.at(s));
+                    same("at(" + s + ")", x.at(s), oracle -> oracle.at(s));
                 }
         }
     }
 
     private void seen() {
         for (int s = -1; s <= 64; s++) {
-            check.due("seed " + seed + " at(" + s + ")", x.at(s), o.at(s));
+            int square = s;
+            same("at(" + s + ")", x.at(s), oracle -> oracle.at(square));
         }
         for (int i = -1; i <= 4; i++) {
-            check.due("seed " + seed + " look(" + i + ")", x.look(i), o.look(i));
+            int which = i;
+            same("look(" + i + ")", x.look(i), oracle -> oracle.look(which));
         }
-        check.due("seed " + seed + " playable()", x.playable(), o.playable());
+        same("playable()", x.playable(), Oracle::playable);
     }
 
-    private void wholeList() {
+    /** The list from its end, as far as calls are left beside some that are kept. */
+    private void wholeList(int kept) {
         if (!o.playable()) {
             return;
         }
         List<Integer> all = o.list();
-        check.due("seed " + seed + " count()", x.count(), all.size());
-        for (int i = 0; i < Math.min(all.size(), x.count()); i++) {
+        same("count()", x.count(), Oracle::count);
+        for (int i = all.size() - 1; i >= 0 && x.left() > kept; i--) {
             check.due("seed " + seed + " move(" + i + ")", x.move(i), all.get(i));
         }
     }
@@ -165,12 +192,34 @@ public final class RandomRunsTest {
     private void run() {
         setUp();
         seen();
-        wholeList();
+        wholeList(150);
         for (int i = 0; i < 25; i++) {
             call();
         }
         seen();
-        wholeList();
+        wholeList(0);
+    }
+
+    /** As many moves as can be taken back, and all of them taken back, in the 512 calls of one object. */
+    private void longRun() {
+        begin();
+        while (x.left() > 250 && o.look(3) < 200) {
+            List<Integer> all = o.list();
+            boolean over = all.isEmpty();
+            int move = over ? 0 : all.get(below(all.size()));
+            if (over || below(30) == 0) {
+                same("unmake()", x.unmake(), Oracle::unmake);
+            } else {
+                same("make(" + move + ")", x.make(move), oracle -> oracle.make(move));
+            }
+        }
+        for (int i = 0; i < 10; i++) {
+            int move = someMove();
+            same("make(" + move + ")", x.make(move), oracle -> oracle.make(move));
+        }
+        while (x.left() > 0) {
+            same("unmake()", x.unmake(), Oracle::unmake);
+        }
     }
 
     public static void main(String[] args) {
@@ -179,7 +228,11 @@ public final class RandomRunsTest {
         int wrong = 0;
         for (int seed = first; seed < first + runs; seed++) {
             RandomRunsTest test = new RandomRunsTest(seed);
-            test.run();
+            if (seed % 100 == 0) {
+                test.longRun();
+            } else {
+                test.run();
+            }
             wrong += test.check.wrong();
         }
         System.out.println(runs + " runs, " + wrong + " answers not as due");

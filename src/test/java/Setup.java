@@ -3,8 +3,8 @@ final class Setup {
     private Setup() {
     }
 
-    static MoveList of(String fen) {
-        MoveList x = new MoveList();
+    static Game of(String fen) {
+        Game x = new Game();
         String[] parts = fen.split(" ");
         int rank = 7;
         int file = 0;
