@@ -152,6 +152,11 @@ final class Game {
         return Check.answer(() -> (Object) x.look(which));
     }
 
+    /** The parts of a sum that are asked for; an exception stays what it is. */
+    static String parts(String answer, int mask) {
+        return answer.startsWith("throws") ? answer : String.valueOf(Integer.parseInt(answer) & mask);
+    }
+
     /** SIDE, RIGHTS, PASSING and how many moves can be taken back. */
     String looks() {
         return look(0) + " " + look(1) + " " + look(2) + " " + look(3);
@@ -190,14 +195,18 @@ final class Game {
         return all.toString();
     }
 
-    /** All that can be asked, and that again behind all moves that can be taken back; for short games. */
+    /** All that can be asked, and that again behind all moves that can be taken back. */
     String everything() {
         StringBuilder all = new StringBuilder(asked());
         int made = Integer.parseInt(look(3));
         for (int i = 0; i <= made; i++) {
             all.append(" unmake ").append(unmake());
         }
-        return made == 0 ? all.toString() : all.append(" then ").append(asked()).toString();
+        if (made == 0) {
+            return all.toString();
+        }
+        // Behind very many moves too few calls are left to ask for all once more.
+        return all.append(" then ").append(made > 100 ? looks() : asked()).toString();
     }
 
     private String asked() {
