@@ -3,8 +3,29 @@ import java.util.function.Supplier;
 
 /** Compares answers with those that are due. */
 final class Check {
+    private static final long MOST_SECONDS = 600;
+
     private int calls = 0;
     private int wrong = 0;
+
+    static {
+        watch();
+    }
+
+    /** A call that never ends must fail its test, not hang it. */
+    private static void watch() {
+        Thread watcher = new Thread(() -> {
+            try {
+                Thread.sleep(1000 * MOST_SECONDS);
+            } catch (InterruptedException e) {
+                return;
+            }
+            System.out.println("not ended behind " + MOST_SECONDS + " seconds");
+            Runtime.getRuntime().halt(1);
+        });
+        watcher.setDaemon(true);
+        watcher.start();
+    }
 
     void due(String what, Object got, Object want) {
         calls++;

@@ -409,6 +409,7 @@ public final class EdgesOfMovesTest {
                 int move = Integer.parseInt(x.move(i));
                 long key = move % 64 * 100000L + move / 64 % 64 * 100L + move / 4096;
                 due("8 in order, " + i + " of " + fen, key > last, true);
+                due("9 its place, " + i + " of " + fen, x.place(move), i);
                 last = key;
             }
         }
@@ -420,6 +421,25 @@ public final class EdgesOfMovesTest {
                 list("a1b1 a1a2 a1b2 d5c3 d5e3 d5b4 d5f4 d5b6 d5f6 d5c7 d5e7"));
         due("8 one to PASSING in its place", Setup.of("7k/8/8/3pPp2/8/8/8/K7 w - d6").list(),
                 list("a1b1 a1a2 a1b2 e5d6 e5e6"));
+    }
+
+    /** The fullest boards there are: no LIST is too long to be told whole. */
+    private static void longLists() {
+        String most = "R6R/3Q4/1Q4Q1/4Q3/2Q4Q/Q4Q2/pp1Q4/kBNN1KB1 w - -";
+        due("7 the most that a game can bring", Setup.of(most).count(), 218);
+        due("12 the most that a game can bring", Setup.of(most).lines(1), 218);
+        due("8 the last of them", Setup.of(most).move(217), Setup.move("h8g8"));
+        due("8 and no more", Setup.of(most).move(218), Game.INDEX);
+        String full = "kpQQQQQQ/P1Q4Q/QQ5Q/Q6Q/Q6Q/Q6Q/Q6Q/QQQQQQQK w - -";
+        Game x = Setup.of(full);
+        due("7 a board full of queens", x.count(), 266);
+        due("8 the last of them", x.move(265), Setup.move("h8g7"));
+        due("8 and no more", x.move(266), Game.INDEX);
+        int sum = 0;
+        for (int square = 0; square < 64; square++) {
+            sum += Integer.parseInt(x.on(square, true)) + Integer.parseInt(x.on(square, false));
+        }
+        due("10 all from and all to", sum, 2 * 266);
     }
 
     private static String list(String moves) {
@@ -445,6 +465,7 @@ public final class EdgesOfMovesTest {
         othersToPassing();
         legal();
         order();
+        longLists();
         CHECK.end();
     }
 }
