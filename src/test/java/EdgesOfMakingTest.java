@@ -54,17 +54,24 @@ public final class EdgesOfMakingTest {
     /** "PASSING is the square that a pawn passed that went two ranks ..., else NONE" */
     private static void passedByOthers() {
         String[][] rows = {
-            {"one rank", "4k3/8/8/8/3p4/8/4P3/4K3 w - -", "e2e3", "-1"}, {"two ranks", "4k3/8/8/8/3p4/8/4P3/4K3 w - -", "e2e4", "20"},
-            {"a rook", "4k3/8/8/8/3p4/8/R7/4K3 w - -", "a2a4", "-1"}, {"a rook beside the pawn", "5k2/8/8/8/3p4/8/4R3/6K1 w - -", "e2e4", "-1"},
-            {"a queen", "5k2/8/8/8/3p4/8/4Q3/6K1 w - -", "e2e4", "-1"}, {"a knight", "5k2/8/8/8/3p4/8/4N3/6K1 w - -", "e2f4", "-1"},
-            {"a bishop", "5k2/8/8/8/3p4/8/4B3/6K1 w - -", "e2g4", "-1"}, {"castling", "4k3/8/8/8/8/8/8/R3K3 w Q d6", "e1c1", "-1"},
-            {"a black rook", "4k3/4r3/8/3P4/8/8/8/6K1 b - -", "e7e5", "-1"}, {"a black pawn", "4k3/4p3/8/3P4/8/8/8/6K1 b - -", "e7e5", "44"},
-            {"a black pawn, one rank", "4k3/4p3/8/3P4/8/8/8/6K1 b - -", "e7e6", "-1"}, {"on both sides", "4k3/8/8/8/3p1p2/8/4P3/4K3 w - -", "e2e4", "20"},
+            {"one rank", "4k3/8/8/8/3p4/8/4P3/4K3 w - -", "e2e3", "-1"},
+            {"two ranks", "4k3/8/8/8/3p4/8/4P3/4K3 w - -", "e2e4", "20"},
+            {"a rook", "4k3/8/8/8/3p4/8/R7/4K3 w - -", "a2a4", "-1"},
+            {"a rook beside the pawn", "5k2/8/8/8/3p4/8/4R3/6K1 w - -", "e2e4", "-1"},
+            {"a queen", "5k2/8/8/8/3p4/8/4Q3/6K1 w - -", "e2e4", "-1"},
+            {"a knight", "5k2/8/8/8/3p4/8/4N3/6K1 w - -", "e2f4", "-1"},
+            {"a bishop", "5k2/8/8/8/3p4/8/4B3/6K1 w - -", "e2g4", "-1"},
+            {"castling", "4k3/8/8/8/8/8/8/R3K3 w Q d6", "e1c1", "-1"},
+            {"a black rook", "4k3/4r3/8/3P4/8/8/8/6K1 b - -", "e7e5", "-1"},
+            {"a black pawn", "4k3/4p3/8/3P4/8/8/8/6K1 b - -", "e7e5", "44"},
+            {"a black pawn, one rank", "4k3/4p3/8/3P4/8/8/8/6K1 b - -", "e7e6", "-1"},
+            {"on both sides", "4k3/8/8/8/3p1p2/8/4P3/4K3 w - -", "e2e4", "20"},
             {"taking in passing is not legal: pinned aslant", "7k/8/8/8/3p4/8/1B2P3/4K3 w - -", "e2e4", "20"},
             {"taking in passing is not legal: pinned along", "3k4/8/8/8/3p4/8/4P3/3RK3 w - -", "e2e4", "20"},
             {"taking in passing is not legal: in check", "8/8/k7/8/3p4/8/4P3/4KB2 w - -", "e2e4", "20"},
             {"mate, PASSING all the same", "8/8/7Q/5k1B/3K1p2/P4R2/1N2P3/8 w - -", "e2e4", "20"},
-            {"it was there before", "4k3/8/8/3pP3/8/8/8/4K3 w - d6", "e1e2", "-1"}, {"it is taken", "4k3/8/8/3pP3/8/8/8/4K3 w - d6", "e5d6", "-1"},
+            {"it was there before", "4k3/8/8/3pP3/8/8/8/4K3 w - d6", "e1e2", "-1"},
+            {"it is taken", "4k3/8/8/3pP3/8/8/8/4K3 w - d6", "e5d6", "-1"},
             {"a new one for an old one", "4k3/8/8/3pP3/5p2/8/6P1/4K3 w - d6", "g2g4", "22"}};
         for (String[] row : rows) {
             Game x = Setup.of(row[1]);
@@ -87,7 +94,9 @@ public final class EdgesOfMakingTest {
             {"k7/8/8/8/8/8/8/4K2R w K -", "e1g1", "4"}, {"k7/8/8/8/8/8/8/4K2R w K -", "h1f1", "0"},
             {"r3k3/8/8/8/8/8/8/7K b q -", "e8c8", "4"}, {"4k2r/8/8/8/8/8/8/K7 b k -", "e8g8", "4"},
             {"k7/8/8/8/8/8/K7/4Q2R w K -", "e1g1", "0"}, {"k7/8/8/8/8/8/K7/4R2R w K -", "e1g1", "0"},
-            {"8/1P6/8/8/8/8/8/K6k w - -", "b7b8n", "8"}, {"8/8/1P6/8/8/8/8/K5k1 w - -", "b6b7", "0"}, {"8/1R6/8/8/8/8/8/K5k1 w - -", "b7b8", "0"},
+            {"8/1P6/8/8/8/8/8/K6k w - -", "b7b8n", "8"},
+            {"8/8/1P6/8/8/8/8/K5k1 w - -", "b6b7", "0"},
+            {"8/1R6/8/8/8/8/8/K5k1 w - -", "b7b8", "0"},
             {"n7/1P6/8/8/8/8/8/K5k1 w - -", "b7a8r", "9"}, {"7K/8/8/8/8/8/6p1/k6N b - -", "g2h1b", "9"},
             {"8/3pP3/8/8/8/8/8/K5k1 w - d8", "e7d8b", "11"}};
         for (String[] row : rows) {
@@ -98,21 +107,36 @@ public final class EdgesOfMakingTest {
     /** "16 it gives check" */
     private static void checks() {
         String[][] rows = {
-            {"a pawn", "8/8/8/3k4/8/8/4P3/7K w - -", "e2e4", "16"}, {"a pawn, one rank short", "8/8/8/3k4/8/8/4P3/7K w - -", "e2e3", "0"},
-            {"a knight", "7k/8/8/4N3/8/8/8/K7 w - -", "e5f7", "16"}, {"a knight beside", "7k/8/8/4N3/8/8/8/K7 w - -", "e5d7", "0"},
-            {"a bishop", "7k/8/8/8/8/8/B7/K7 w - -", "a2d5", "0"}, {"a bishop", "k7/8/8/8/8/8/B7/K7 w - -", "a2d5", "16"},
-            {"a rook", "k7/8/8/8/8/8/1R6/7K w - -", "b2a2", "16"}, {"a rook behind a piece", "k7/n7/8/8/8/8/1R6/7K w - -", "b2a2", "0"},
-            {"a queen aslant", "k7/8/8/8/8/1Q6/8/7K w - -", "b3f3", "16"}, {"a queen along", "k7/8/8/8/8/1Q6/8/7K w - -", "b3a3", "16"},
-            {"a queen, neither", "k7/8/8/8/8/1Q6/8/7K w - -", "b3c3", "0"}, {"the king opens a line", "k7/8/8/8/8/8/K7/R7 w - -", "a2b2", "16"},
-            {"the king stays on the line", "k7/8/8/8/8/8/K7/R7 w - -", "a2a3", "0"}, {"a pawn opens a line", "k7/8/8/8/8/5P2/8/K6B w - -", "f3f4", "16"},
-            {"castling's rook", "5k2/8/8/8/8/8/8/4K2R w K -", "e1g1", "16"}, {"castling's rook, the other way", "3k4/8/8/8/8/8/8/R3K3 w Q -", "e1c1", "16"},
-            {"becomes a queen", "8/1P6/8/8/8/8/1k6/7K w - -", "b7b8q", "16"}, {"becomes a knight", "8/1P6/8/8/8/8/1k6/7K w - -", "b7b8n", "0"},
-            {"becomes a knight that does", "8/1P1k4/8/8/8/8/8/7K w - -", "b7b8n", "16"}, {"becomes a bishop", "8/1P1k4/8/8/8/8/8/7K w - -", "b7b8b", "0"},
-            {"becomes a bishop that does", "8/1P6/3k4/8/8/8/8/7K w - -", "b7b8b", "16"}, {"becomes a rook", "8/1P6/3k4/8/8/8/8/7K w - -", "b7b8r", "0"},
-            {"becomes a rook that does", "6k1/1P6/8/8/8/8/8/7K w - -", "b7b8r", "16"}, {"in passing, the pawn itself", "8/2k5/8/3pP3/8/8/8/4K3 w - d6", "e5d6", "16"},
-            {"in passing, its file opens", "4k3/8/8/3pP3/8/8/8/K3R3 w - d6", "e5d6", "16"}, {"in passing, the taken pawn's line opens", "6k1/8/8/3pP3/8/8/B7/4K3 w - d6", "e5d6", "16"},
-            {"out of check without one", "4r2k/8/8/8/8/8/8/4K3 w - -", "e1d1", "0"}, {"out of check with one", "7k/8/8/8/3K4/8/1B6/3r4 w - -", "d4e3", "16"},
-            {"black's", "k7/8/8/4r3/8/8/8/7K b - -", "e5e1", "16"}, {"black's pawn", "k7/8/8/8/8/6p1/8/7K b - -", "g3g2", "16"}};
+            {"a pawn", "8/8/8/3k4/8/8/4P3/7K w - -", "e2e4", "16"},
+            {"a pawn, one rank short", "8/8/8/3k4/8/8/4P3/7K w - -", "e2e3", "0"},
+            {"a knight", "7k/8/8/4N3/8/8/8/K7 w - -", "e5f7", "16"},
+            {"a knight beside", "7k/8/8/4N3/8/8/8/K7 w - -", "e5d7", "0"},
+            {"a bishop", "7k/8/8/8/8/8/B7/K7 w - -", "a2d5", "0"},
+            {"a bishop", "k7/8/8/8/8/8/B7/K7 w - -", "a2d5", "16"},
+            {"a rook", "k7/8/8/8/8/8/1R6/7K w - -", "b2a2", "16"},
+            {"a rook behind a piece", "k7/n7/8/8/8/8/1R6/7K w - -", "b2a2", "0"},
+            {"a queen aslant", "k7/8/8/8/8/1Q6/8/7K w - -", "b3f3", "16"},
+            {"a queen along", "k7/8/8/8/8/1Q6/8/7K w - -", "b3a3", "16"},
+            {"a queen, neither", "k7/8/8/8/8/1Q6/8/7K w - -", "b3c3", "0"},
+            {"the king opens a line", "k7/8/8/8/8/8/K7/R7 w - -", "a2b2", "16"},
+            {"the king stays on the line", "k7/8/8/8/8/8/K7/R7 w - -", "a2a3", "0"},
+            {"a pawn opens a line", "k7/8/8/8/8/5P2/8/K6B w - -", "f3f4", "16"},
+            {"castling's rook", "5k2/8/8/8/8/8/8/4K2R w K -", "e1g1", "16"},
+            {"castling's rook, the other way", "3k4/8/8/8/8/8/8/R3K3 w Q -", "e1c1", "16"},
+            {"becomes a queen", "8/1P6/8/8/8/8/1k6/7K w - -", "b7b8q", "16"},
+            {"becomes a knight", "8/1P6/8/8/8/8/1k6/7K w - -", "b7b8n", "0"},
+            {"becomes a knight that does", "8/1P1k4/8/8/8/8/8/7K w - -", "b7b8n", "16"},
+            {"becomes a bishop", "8/1P1k4/8/8/8/8/8/7K w - -", "b7b8b", "0"},
+            {"becomes a bishop that does", "8/1P6/3k4/8/8/8/8/7K w - -", "b7b8b", "16"},
+            {"becomes a rook", "8/1P6/3k4/8/8/8/8/7K w - -", "b7b8r", "0"},
+            {"becomes a rook that does", "6k1/1P6/8/8/8/8/8/7K w - -", "b7b8r", "16"},
+            {"in passing, the pawn itself", "8/2k5/8/3pP3/8/8/8/4K3 w - d6", "e5d6", "16"},
+            {"in passing, its file opens", "4k3/8/8/3pP3/8/8/8/K3R3 w - d6", "e5d6", "16"},
+            {"in passing, the taken pawn's line opens", "6k1/8/8/3pP3/8/8/B7/4K3 w - d6", "e5d6", "16"},
+            {"out of check without one", "4r2k/8/8/8/8/8/8/4K3 w - -", "e1d1", "0"},
+            {"out of check with one", "7k/8/8/8/3K4/8/1B6/3r4 w - -", "d4e3", "16"},
+            {"black's", "k7/8/8/4r3/8/8/8/7K b - -", "e5e1", "16"},
+            {"black's pawn", "k7/8/8/8/8/6p1/8/7K b - -", "g3g2", "16"}};
         for (String[] row : rows) {
             due("11 " + row[0], Game.parts(Setup.of(row[1]).kind(row[2]), 16), row[3]);
         }
@@ -121,14 +145,20 @@ public final class EdgesOfMakingTest {
     /** "32 the other side has no LEGAL move then" */
     private static void endings() {
         String[][] rows = {
-            {"mate", "6k1/5ppp/8/8/8/8/8/K3R3 w - -", "e1e8", "48"}, {"one square is left", "6k1/5pp1/8/8/8/8/8/K3R3 w - -", "e1e8", "16"},
-            {"a piece comes between", "6k1/5ppp/8/8/8/4n3/3r4/K1R5 w - -", "c1c8", "16"}, {"the piece is taken", "b5k1/5ppp/8/2p5/8/8/8/K3R3 w - -", "e1e8", "48"},
-            {"the piece is taken", "6k1/5ppp/8/1b6/8/8/8/K3R3 w - -", "e1e8", "16"}, {"stalemate", "7k/8/8/5Q2/8/8/8/K7 w - -", "f5f7", "32"},
-            {"a pawn is left", "7k/8/8/5Q2/8/p7/8/K7 w - -", "f5f7", "0"}, {"a pawn is left that is blocked", "7k/8/8/5Q2/8/8/p7/K7 w - -", "f5f7", "32"},
+            {"mate", "6k1/5ppp/8/8/8/8/8/K3R3 w - -", "e1e8", "48"},
+            {"one square is left", "6k1/5pp1/8/8/8/8/8/K3R3 w - -", "e1e8", "16"},
+            {"a piece comes between", "6k1/5ppp/8/8/8/4n3/3r4/K1R5 w - -", "c1c8", "16"},
+            {"the piece is taken", "b5k1/5ppp/8/2p5/8/8/8/K3R3 w - -", "e1e8", "48"},
+            {"the piece is taken", "6k1/5ppp/8/1b6/8/8/8/K3R3 w - -", "e1e8", "16"},
+            {"stalemate", "7k/8/8/5Q2/8/8/8/K7 w - -", "f5f7", "32"},
+            {"a pawn is left", "7k/8/8/5Q2/8/p7/8/K7 w - -", "f5f7", "0"},
+            {"a pawn is left that is blocked", "7k/8/8/5Q2/8/8/p7/K7 w - -", "f5f7", "32"},
             {"only taking in passing is left", "8/4Q3/7p/5k1K/3p4/8/4P2p/2B5 w - -", "e2e4", "16"},
             {"and that is not legal", "8/8/7Q/5k1B/3K1p2/P4R2/1N2P3/8 w - -", "e2e4", "48"},
-            {"mate by what a pawn becomes", "6k1/1P3ppp/8/8/8/8/8/K7 w - -", "b7b8r", "56"}, {"not by a knight", "6k1/1P3ppp/8/8/8/8/8/K7 w - -", "b7b8n", "8"},
-            {"mate by taking", "4r1k1/5ppp/8/8/8/8/8/K3R3 w - -", "e1e8", "49"}, {"black's mate", "k3r3/8/8/8/8/8/5PPP/6K1 b - -", "e8e1", "48"},
+            {"mate by what a pawn becomes", "6k1/1P3ppp/8/8/8/8/8/K7 w - -", "b7b8r", "56"},
+            {"not by a knight", "6k1/1P3ppp/8/8/8/8/8/K7 w - -", "b7b8n", "8"},
+            {"mate by taking", "4r1k1/5ppp/8/8/8/8/8/K3R3 w - -", "e1e8", "49"},
+            {"black's mate", "k3r3/8/8/8/8/8/5PPP/6K1 b - -", "e8e1", "48"},
             {"black's stalemate", "k7/8/8/8/5q2/8/8/7K b - -", "f4f2", "32"}};
         for (String[] row : rows) {
             Game x = Setup.of(row[1]);
@@ -186,19 +216,28 @@ public final class EdgesOfMakingTest {
     /** What a move of each sort does to the board, and that taking it back undoes it all. */
     private static void sorts() {
         String[][] rows = {
-            {"goes", "r3k2r/8/8/8/8/8/8/R3K2R w KQkq -", "a1c1", "a1 c1", "0 4"}, {"takes", "r3k2r/8/8/8/8/8/8/R3K2R w KQkq -", "a1a8", "a1 a8", "0 4"},
-            {"the king goes", "r3k2r/8/8/8/8/8/8/R3K2R b KQkq -", "e8d7", "e8 d7", "0 12"}, {"the king takes", "4k3/8/8/8/8/8/4q3/4K3 w KQkq -", "e1e2", "e1 e2", "0 6"},
+            {"goes", "r3k2r/8/8/8/8/8/8/R3K2R w KQkq -", "a1c1", "a1 c1", "0 4"},
+            {"takes", "r3k2r/8/8/8/8/8/8/R3K2R w KQkq -", "a1a8", "a1 a8", "0 4"},
+            {"the king goes", "r3k2r/8/8/8/8/8/8/R3K2R b KQkq -", "e8d7", "e8 d7", "0 12"},
+            {"the king takes", "4k3/8/8/8/8/8/4q3/4K3 w KQkq -", "e1e2", "e1 e2", "0 6"},
             {"castles", "r3k2r/8/8/8/8/8/8/R3K2R w KQkq -", "e1g1", "a1 e1 f1 g1 h1", "4 0 4 6 0"},
             {"castles", "r3k2r/8/8/8/8/8/8/R3K2R w KQkq -", "e1c1", "a1 b1 c1 d1 e1 h1", "0 0 6 4 0 4"},
             {"castles", "r3k2r/8/8/8/8/8/8/R3K2R b KQkq -", "e8g8", "a8 e8 f8 g8 h8", "10 0 10 12 0"},
             {"castles", "r3k2r/8/8/8/8/8/8/R3K2R b KQkq -", "e8c8", "a8 b8 c8 d8 e8 h8", "0 0 12 10 0 10"},
-            {"in passing", "4k3/8/8/3pPp2/8/8/8/4K3 w - d6", "e5d6", "e5 d6 d5 f5", "0 1 0 7"}, {"in passing", "4k3/8/8/3pPp2/8/8/8/4K3 w - f6", "e5f6", "e5 f6 d5 f5", "0 1 7 0"},
-            {"in passing", "4k3/8/8/8/3pP3/8/8/4K3 b - e3", "d4e3", "d4 e3 e4", "0 7 0"}, {"in passing on the last rank", "8/3pP3/8/8/8/8/8/K6k w - d8", "e7d8q", "e7 d8 d7", "0 5 0"},
-            {"two ranks", "4k3/8/8/8/3p4/8/4P3/4K3 w - -", "e2e4", "e2 e3 e4", "0 0 1"}, {"two ranks", "4k3/3p4/8/4P3/8/8/8/4K3 b - -", "d7d5", "d7 d6 d5", "0 0 7"},
-            {"becomes a knight", "7k/1P6/8/8/8/8/8/K7 w - -", "b7b8n", "b7 b8", "0 2"}, {"becomes a bishop", "7k/1P6/8/8/8/8/8/K7 w - -", "b7b8b", "b7 b8", "0 3"},
-            {"becomes a rook", "7k/1P6/8/8/8/8/8/K7 w - -", "b7b8r", "b7 b8", "0 4"}, {"becomes a queen", "7k/1P6/8/8/8/8/8/K7 w - -", "b7b8q", "b7 b8", "0 5"},
-            {"becomes a black knight", "7K/8/8/8/8/8/1p6/k7 b - -", "b2b1n", "b2 b1", "0 8"}, {"becomes a black bishop", "7K/8/8/8/8/8/1p6/k7 b - -", "b2b1b", "b2 b1", "0 9"},
-            {"becomes a black rook", "7K/8/8/8/8/8/1p6/k7 b - -", "b2b1r", "b2 b1", "0 10"}, {"becomes a black queen", "7K/8/8/8/8/8/1p6/k7 b - -", "b2b1q", "b2 b1", "0 11"},
+            {"in passing", "4k3/8/8/3pPp2/8/8/8/4K3 w - d6", "e5d6", "e5 d6 d5 f5", "0 1 0 7"},
+            {"in passing", "4k3/8/8/3pPp2/8/8/8/4K3 w - f6", "e5f6", "e5 f6 d5 f5", "0 1 7 0"},
+            {"in passing", "4k3/8/8/8/3pP3/8/8/4K3 b - e3", "d4e3", "d4 e3 e4", "0 7 0"},
+            {"in passing on the last rank", "8/3pP3/8/8/8/8/8/K6k w - d8", "e7d8q", "e7 d8 d7", "0 5 0"},
+            {"two ranks", "4k3/8/8/8/3p4/8/4P3/4K3 w - -", "e2e4", "e2 e3 e4", "0 0 1"},
+            {"two ranks", "4k3/3p4/8/4P3/8/8/8/4K3 b - -", "d7d5", "d7 d6 d5", "0 0 7"},
+            {"becomes a knight", "7k/1P6/8/8/8/8/8/K7 w - -", "b7b8n", "b7 b8", "0 2"},
+            {"becomes a bishop", "7k/1P6/8/8/8/8/8/K7 w - -", "b7b8b", "b7 b8", "0 3"},
+            {"becomes a rook", "7k/1P6/8/8/8/8/8/K7 w - -", "b7b8r", "b7 b8", "0 4"},
+            {"becomes a queen", "7k/1P6/8/8/8/8/8/K7 w - -", "b7b8q", "b7 b8", "0 5"},
+            {"becomes a black knight", "7K/8/8/8/8/8/1p6/k7 b - -", "b2b1n", "b2 b1", "0 8"},
+            {"becomes a black bishop", "7K/8/8/8/8/8/1p6/k7 b - -", "b2b1b", "b2 b1", "0 9"},
+            {"becomes a black rook", "7K/8/8/8/8/8/1p6/k7 b - -", "b2b1r", "b2 b1", "0 10"},
+            {"becomes a black queen", "7K/8/8/8/8/8/1p6/k7 b - -", "b2b1q", "b2 b1", "0 11"},
             {"takes in a corner and becomes a queen", "r3k3/1P6/8/8/8/8/8/4K3 w KQkq -", "b7a8q", "b7 a8", "0 5"},
             {"takes in a corner and becomes a rook", "4k3/8/8/8/8/8/6p1/4K2R b KQkq -", "g2h1r", "g2 h1", "0 10"}};
         for (String[] row : rows) {

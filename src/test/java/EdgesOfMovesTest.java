@@ -6,7 +6,6 @@ public final class EdgesOfMovesTest {
     private static final Check CHECK = new Check();
     private static final int PAWN = 1;
     private static final int KNIGHT = 2;
-    private static final int ROOK = 4;
     private static final int QUEEN = 5;
     private static final int KING = 6;
 
