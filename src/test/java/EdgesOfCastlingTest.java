@@ -215,7 +215,8 @@ public final class EdgesOfCastlingTest {
     private static void rightsGo() {
         String[] fens = {"r3k2r/8/8/8/8/8/8/R3K2R", "r3k2r/1P4P1/8/8/8/8/1p4p1/R3K2R", "1k6/8/8/3Q4/8/3K4/8/8",
             "8/1k6/8/3q4/8/8/6K1/8", "b3k2n/8/8/8/8/8/8/N3K2B", "4k3/8/8/8/8/8/1q6/2K5", "2k5/6Q1/8/8/8/8/8/4K3",
-            "8/K6k/8/8/8/8/8/8", "8/8/8/8/8/8/k6K/8", "4k3/1P4P1/8/8/8/8/1p4p1/4K3"};
+            "8/K6k/8/8/8/8/8/8", "8/8/8/8/8/8/k6K/8", "4k3/1P4P1/8/8/8/8/1p4p1/4K3",
+            "N6R/3k4/8/8/8/8/3K4/n6r", "R6N/4k3/8/8/8/8/4K3/r6n", "n6r/3k4/8/8/8/8/3K4/N6R", "K6P/8/8/8/8/8/8/p6k"};
         for (String fen : fens) {
             for (int side = 0; side < 2; side++) {
                 for (int rights = 0; rights <= 15; rights++) {

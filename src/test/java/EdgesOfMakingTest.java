@@ -1,3 +1,5 @@
+import java.util.LinkedHashMap;
+import java.util.Map;
 import java.util.function.Consumer;
 import java.util.function.Function;
 
@@ -411,6 +413,43 @@ public final class EdgesOfMakingTest {
         due("no call is left", full.left(), 0);
     }
 
+    /** A move stands and can be taken back by the 512th call, whatever was asked between. */
+    private static void manyQuestions() {
+        Map<String, Function<Game, String>> questions = new LinkedHashMap<>();
+        questions.put("playable", Game::playable);
+        questions.put("count", Game::count);
+        questions.put("move", x -> x.move(19));
+        questions.put("move, none such", x -> x.move(20));
+        questions.put("place", x -> x.place("e7e5"));
+        questions.put("on", x -> x.on(52, true));
+        questions.put("kind", x -> x.kind("e7e5"));
+        questions.put("kind, not legal", x -> x.kind("e2e4"));
+        questions.put("lines", x -> x.lines(2));
+        questions.put("lines, none such", x -> x.lines(4));
+        questions.put("make, not legal", x -> x.make("e2e4"));
+        questions.put("make and unmake", x -> x.make("e7e5") + x.unmake());
+        questions.put("at", x -> x.at(28));
+        questions.put("check", Game::check);
+        questions.put("pinned", Game::pinned);
+        questions.put("look", x -> x.look(2));
+        questions.put("put, none such", x -> x.put(64, 0));
+        questions.put("state, none such", x -> x.state(2, 0, -1));
+        for (Map.Entry<String, Function<Game, String>> question : questions.entrySet()) {
+            Game x = begun().played("e2e4");
+            String first = question.getValue().apply(x);
+            String last = first;
+            while (x.left() > 3) {
+                last = question.getValue().apply(x);
+            }
+            due("the same in the last calls: " + question.getKey(), last, first);
+            due("13 the move stands in the last calls: " + question.getKey(), x.look(3), 1);
+            while (x.left() > 1) {
+                x.at(0);
+            }
+            due("14 the 512th call behind: " + question.getKey(), x.unmake(), Setup.move("e2e4"));
+        }
+    }
+
     private static Game begun512() {
         Game x = begun();
         while (x.left() > 1) {
@@ -437,6 +476,7 @@ public final class EdgesOfMakingTest {
         twoHundred();
         twoHundredBoard();
         manyCalls();
+        manyQuestions();
         CHECK.end();
     }
 }

@@ -429,16 +429,20 @@ public final class EdgesOfMovesTest {
         due("12 the most that a game can bring", Setup.of(most).lines(1), 218);
         due("8 the last of them", Setup.of(most).move(217), Setup.move("h8g8"));
         due("8 and no more", Setup.of(most).move(218), Game.INDEX);
-        String full = "kpQQQQQQ/P1Q4Q/QQ5Q/Q6Q/Q6Q/Q6Q/Q6Q/QQQQQQQK w - -";
-        Game x = Setup.of(full);
-        due("7 a board full of queens", x.count(), 266);
-        due("8 the last of them", x.move(265), Setup.move("h8g7"));
-        due("8 and no more", x.move(266), Game.INDEX);
+        // Found by trying pieces on all squares for the longest LIST; many tries ended at the same length.
+        Game x = Setup.of("QQQQQQBk/Q5RB/Q6Q/Q6Q/Q6Q/Q6Q/Q6Q/KQQQQQQQ w - -");
+        due("7 the most that can be set up", x.count(), 271);
+        due("8 the last of them", x.move(270), Setup.move("g8f7"));
+        due("8 and no more", x.move(271), Game.INDEX);
+        due("9 the last of them", x.place("g8f7"), 270);
         int sum = 0;
         for (int square = 0; square < 64; square++) {
             sum += Integer.parseInt(x.on(square, true)) + Integer.parseInt(x.on(square, false));
         }
-        due("10 all from and all to", sum, 2 * 266);
+        due("10 all from and all to", sum, 2 * 271);
+        // The lines that Stockfish 15.1 counts here.
+        Game both = Setup.of("QqQqQqNk/Q4qqN/q5Qq/Q6q/q6Q/QQ5q/pnq4Q/KQQQqQqq w - -");
+        due("12 many moves of both", both.lines(1) + " " + both.lines(2) + " " + both.lines(3), "187 33368 5556096");
     }
 
     private static String list(String moves) {
